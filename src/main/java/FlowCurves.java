@@ -735,7 +735,7 @@ public final class FlowCurves {
             for (int s = 0; s < head; s++) {
                 least = Math.min(least, one[s] + other[t - s]);
             }
-            for (int u = 0; u < nearOther && u <= t; u++) {
+            for (int u = 1; u < nearOther && u <= t; u++) {
                 least = Math.min(least, one[t - u] + other[u]);
             }
             return least;

@@ -332,6 +332,11 @@ public final class PromisesTest {
         int later = lateCurve(x, 60, 3);
         refused(x, 7, "BOTH of LATE 150 and 60", x.of(4, late, later), -4, FlowCurves.BEYOND);
         terms(x, 7, "BOTH of LATE 150 and 50", x.of(4, late, lateCurve(x, 50, 3)), 200, 1, 2);
+        for (int t = 0; t <= 160; t++) {
+            x.put(Math.min(t, 150));
+        }
+        int paused = x.curve(1, 1);
+        refused(x, 7, "BOTH that pauses again at 310", x.of(4, paused, paused), -4, FlowCurves.BEYOND);
         int high = made(x, 1, 0, 7);
         int low = made(x, 1, 0, 5);
         amounts(x, 7, "BOTH of flat ones", x.of(4, high, low), 12, 12, 12);
@@ -558,6 +563,9 @@ public final class PromisesTest {
         int a = stair(x, 12, 18);
         due(13, "upper", x.rate(a, 0), 3);
         due(13, "lower", x.rate(a, 1), 2);
+        int four = stair(x, 4, 6);
+        due(13, "upper, halved", x.rate(four, 0), 3);
+        due(13, "lower, halved", x.rate(four, 1), 2);
         int flat = made(x, 1, 0, 0, 5);
         due(13, "upper of RATE 0", x.rate(flat, 0), 0);
         due(13, "lower of RATE 0", x.rate(flat, 1), 1);
@@ -569,7 +577,7 @@ public final class PromisesTest {
         due(13, "lower, no common part", x.rate(seven, 1), 7);
         refused(x, 13, "what 2", x.rate(a, 2), -1, FlowCurves.BAD);
         refused(x, 13, "what -1", x.rate(a, -1), -1, FlowCurves.BAD);
-        refused(x, 13, "no curve", x.rate(4, 0), -1, FlowCurves.BAD);
+        refused(x, 13, "no curve", x.rate(5, 0), -1, FlowCurves.BAD);
     }
 
     private static void unlike() {
