@@ -14,7 +14,7 @@ public final class ModelTest {
     private static final long[] ways = new long[6];
 
     public static void main(String[] args) {
-        int objects = args.length > 0 ? Integer.parseInt(args[0]) : 160;
+        int objects = args.length > 0 ? Integer.parseInt(args[0]) : 200;
         for (int i = 0; i < objects && wrong < 20; i++) {
             runOne(i);
         }
@@ -38,7 +38,7 @@ public final class ModelTest {
     private static void runOne(int run) {
         FlowCurves real = new FlowCurves();
         Model model = new Model();
-        int style = draw(4);
+        int style = draw(5);
         StringBuilder log = new StringBuilder();
         int[] step = {0};
         while (step[0] < 512) {
@@ -52,7 +52,7 @@ public final class ModelTest {
                 rowCalls(real, model, style, log, step);
                 continue;
             } else if (kind < 17) {
-                int c = draw(9) == 0 ? pick(-1, 1000000001, 1000000000, 999999999, 0) : draw(6);
+                int c = draw(style == 4 ? 2 : 9) == 0 ? pick(-1, 1000000001, 1000000000, 999999999, 500000000, 333333333, 0) : draw(6);
                 call = "ray(" + c + ")";
                 got[0] = real.ray(c); got[1] = model.ray(c);
             } else if (kind < 33) {
@@ -92,7 +92,8 @@ public final class ModelTest {
                 call = "below(" + f + "," + g + ")";
                 got[0] = real.below(f, g); got[1] = model.below(f, g);
             } else if (kind < 67) {
-                long v = draw(6) == 0 ? pick(-1, 1000000000, 2000000000) * (long) pick(1, 1000, 1000000000) : draw(1000);
+                long v = draw(6) == 0 ? pick(-1, 1000000000, 2000000000) * (long) pick(1, 1000, 1000000000)
+                    : style == 4 && draw(2) == 0 ? draw(1000000000) * (long) draw(1000000000) : draw(1000);
                 call = "first(" + f + "," + v + ")";
                 got[0] = real.first(f, v); got[1] = model.first(f, v);
             } else if (kind < 70) {
@@ -177,8 +178,11 @@ public final class ModelTest {
             call = "curve(" + s + "," + c + ")";
             got[0] = real.curve(s, c); got[1] = model.curve(s, c);
         } else {
-            call = "whole row";
-            wholeRow(real, model, style, log, step);
+            if (style == 4) {
+                greatRow(real, model, log, step);
+            } else {
+                wholeRow(real, model, style, log, step);
+            }
             return;
         }
         compare(-1, call, got, real, model, log, step);
@@ -215,6 +219,48 @@ public final class ModelTest {
         }
         long wrap = model.row.get(model.row.size() - 1) - model.row.get(model.row.size() - d);
         int c = (int) Math.max(0, Math.min(1000000000L, wrap + draw(5) - (draw(6) == 0 ? 1 : 0)));
+        got[0] = real.curve(d, c); got[1] = model.curve(d, c);
+        compare(-1, "curve(" + d + "," + c + ")", got, real, model, log, step);
+    }
+
+    private static long rise() {
+        switch (draw(10)) {
+            case 0: return 1000000000L - draw(3);
+            case 1: return draw(1000000000);
+            case 2: return 500000000L;
+            case 3: return draw(100) * 1000000000L;
+            case 4: return draw(4);
+            case 5: return 1;
+            default: return 0;
+        }
+    }
+
+    /** A row of AMOUNTS and a gain near their bounds, and a curve from it; every third row is even. */
+    private static void greatRow(FlowCurves real, Model model, StringBuilder log, int[] step) {
+        long[] got = new long[2];
+        got[0] = real.drop(); got[1] = model.drop();
+        compare(-1, "drop()", got, real, model, log, step);
+        int d = pick(1, 1, 1, 2, 2, 3, 4, 5, 6, 10, 12, 15, 20, 30);
+        if (draw(8) == 0) {
+            int zeros = draw(195) + 1;
+            got[0] = real.draw(zeros, 5, 0); got[1] = model.draw(zeros, 5, 0);
+            compare(-1, "draw(" + zeros + ",5,0)", got, real, model, log, step);
+        }
+        boolean even = draw(3) == 0;
+        long[] rises = new long[pick(1, 2, 3, 4, 5, 6)];
+        for (int i = 0; i < rises.length; i++) {
+            rises[i] = rise();
+        }
+        long v = draw(3) > 0 ? 0 : draw(2) == 0 ? rise() : 1000000000000L - draw(1000) * 1000000000L;
+        int n = d + draw(6);
+        for (int i = 0; i < n; i++) {
+            got[0] = real.put(v); got[1] = model.put(v);
+            compare(-1, "put(" + v + ")", got, real, model, log, step);
+            v = Math.min(1000000000000L, v + (even ? rises[i % rises.length] : rise()));
+        }
+        long wrap = model.row.get(model.row.size() - 1) - model.row.get(model.row.size() - d);
+        long gain = draw(4) == 0 ? 1000000000L - draw(3) : wrap + (even ? rises[draw(rises.length)] : rise());
+        int c = (int) Math.min(1000000000L, gain);
         got[0] = real.curve(d, c); got[1] = model.curve(d, c);
         compare(-1, "curve(" + d + "," + c + ")", got, real, model, log, step);
     }
